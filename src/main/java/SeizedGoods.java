@@ -934,7 +934,7 @@ public final class SeizedGoods {
     /** The tape, and the text on it read into a land. */
     private static final class Reader {
         private static final int MAX_BYTES = 500, MAX_FIGURES = 3;
-        private static final int NAME = 0, NUMBER = 1, SIGN = 2, END = 3, NOTHING = 4;
+        private static final int NAME = 0, NUMBER = 1, SIGN = 2, END = 3, NOTHING = 4, BLANK = 5;
         private static final int CANNOT_STAND = 1, NOT_AS_TOLD = 2, NO_ROOM = 3;
         private static final int TOWN = 0, MAN = 1, ROAD = 2, LAW = 3, FAIR = 4, PACT = 5, SORTS = 6, NO_WORD = -1;
         private static final int[] ROOM = {MAX_TOWNS, MAX_MEN, 12, 12, MAX_FAIRS, 12};
@@ -1132,47 +1132,41 @@ public final class SeizedGoods {
 
         private void nextToken() {
             start = end;
-            while (start < length && (tape[start] == ' ' || tape[start] == '\n')) {
+            while (start < length && sortAt(start) == BLANK) {
                 start++;
             }
             end = start;
-            if (start >= length) {
-                token = END;
-            } else if (isLetter(start)) {
-                takeName();
-            } else if (isFigure(start)) {
-                takeNumber();
-            } else {
-                token = tape[start] == ';' ? SIGN : NOTHING;
-                end = start + 1;
-            }
-        }
-
-        private boolean isLetter(int place) {
-            return tape[place] >= 'a' && tape[place] <= 'z';
-        }
-
-        private boolean isFigure(int place) {
-            return tape[place] >= '0' && tape[place] <= '9';
-        }
-
-        private void takeName() {
-            token = NAME;
-            while (end < length && isLetter(end)) {
-                end++;
-            }
-        }
-
-        // Figures beyond the third are not reckoned: a row of hundreds of them would wrap around.
-        private void takeNumber() {
+            token = sortAt(start);
             value = 0;
-            while (end < length && isFigure(end)) {
+            boolean runsOn = token == NAME || token == NUMBER;
+            int most = runsOn ? length : Math.min(length, start + 1);
+            while (end < most && sortAt(end) == token) {
+                // Figures beyond the third are not reckoned: a row of hundreds of them would wrap around.
                 if (end - start < MAX_FIGURES) {
                     value = value * 10 + tape[end] - '0';
                 }
                 end++;
             }
-            token = end - start <= MAX_FIGURES ? NUMBER : NOTHING;
+            if (token == NUMBER && end - start > MAX_FIGURES) {
+                token = NOTHING;
+            }
+        }
+
+        private int sortAt(int place) {
+            if (place >= length) {
+                return END;
+            }
+            int sign = tape[place];
+            if (sign == ' ' || sign == '\n') {
+                return BLANK;
+            }
+            if (sign >= 'a' && sign <= 'z') {
+                return NAME;
+            }
+            if (sign >= '0' && sign <= '9') {
+                return NUMBER;
+            }
+            return sign == ';' ? SIGN : NOTHING;
         }
     }
 

@@ -8,6 +8,7 @@ public final class LandsTest {
         faultsOfRoom();
         faultLeavesLand();
         newLand();
+        newLandsInARow();
         later();
         goes();
         man();
@@ -86,6 +87,14 @@ public final class LandsTest {
         faulty("", "5;", 1);
         faulty("", "tow 1;", 1);
         faulty("", "towns 1;", 1);
+        faulty("", "townz 1;", 1);
+        faulty("", "atown 1;", 1);
+        faulty("town", "{1;", 1);
+        faulty("town", "`1;", 1);
+        faulty("town 1", ":", 1);
+        faulty("town 1", "/", 1);
+        faulty("town 1;", "\r", 1);
+        faulty("town 1;", "\0", 1);
         faulty("", "Town 1;", 1);
         faulty("town", "\t1;", 1);
         faulty("town 1;\n ", "x", 1);
@@ -193,6 +202,39 @@ public final class LandsTest {
         Check.due("no pact", g.pact(0, 1, 0), 0);
         g.debt(0, 1, 5);
         Check.due("no oath", g.says(0), 0);
+    }
+
+    /** What one land had is in none of those read behind it, however many. */
+    private static void newLandsInARow() {
+        SeizedGoods g = new SeizedGoods();
+        for (int k = 0; k < 4; k++) {
+            Check.due("rich land", Check.read(g, "town 3;town 4;man 0;man 1;man 0;road 0 1;law 0 0 100 1 0;law 1 3 7 0 1;"
+                + "fair 1 0 9;fair 0 800 900;pact 0 1;"), 2);
+            int[] rich = {0, 2, 3, 1, 2, 1, 0, 0, 0, 0, 0};
+            for (int what = 0; what <= 10; what++) {
+                Check.due("rich count " + what, g.count(what), rich[what]);
+            }
+            g.pact(0, 1, 0);
+            g.goes(1, 0);
+            g.debt(0, 1, 20 + k);
+            g.ask(0);
+            g.letter(0, 9, 9);
+            g.swear(0, 0, 1);
+            Check.due("bred", g.seize(0, 2, 6), 1);
+            g.later(5);
+            Check.due("poor land", Check.read(g, "town 7;town 8;man 1;man 1;"), 2);
+            int[] poor = {0, 2, 2, 0, 0, 0, 0, 0, 0, 0, 0};
+            for (int what = 0; what <= 10; what++) {
+                Check.due("poor count " + what, g.count(what), poor[what]);
+            }
+            Check.due("poor law", g.law(1, 0) * 1000 + g.law(1, 1) * 10 + g.law(1, 2), 2001);
+            g.debt(0, 1, 3);
+            int[] want = {1, 0, 3, 3, 0, 0, Check.NONE, Check.NONE, Check.NONE};
+            for (int what = 0; what <= 8; what++) {
+                Check.due("poor claim " + what, g.claim(0, what), want[what]);
+            }
+            Check.due("no oath", g.swear(0, 0, 0), Check.NONE);
+        }
     }
 
     private static void later() {
