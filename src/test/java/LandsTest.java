@@ -221,6 +221,7 @@ public final class LandsTest {
             g.letter(0, 9, 9);
             g.swear(0, 0, 1);
             Check.due("bred", g.seize(0, 2, 6), 1);
+            g.pact(0, 1, 1);
             g.later(5);
             Check.due("poor land", Check.read(g, "town 7;town 8;man 1;man 1;"), 2);
             int[] poor = {0, 2, 2, 0, 0, 0, 0, 0, 0, 0, 0};
