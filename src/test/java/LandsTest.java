@@ -223,19 +223,25 @@ public final class LandsTest {
             Check.due("bred", g.seize(0, 2, 6), 1);
             g.pact(0, 1, 1);
             g.later(5);
-            Check.due("poor land", Check.read(g, "town 7;town 8;man 1;man 1;"), 2);
-            int[] poor = {0, 2, 2, 0, 0, 0, 0, 0, 0, 0, 0};
-            for (int what = 0; what <= 10; what++) {
-                Check.due("poor count " + what, g.count(what), poor[what]);
-            }
-            Check.due("poor law", g.law(1, 0) * 1000 + g.law(1, 1) * 10 + g.law(1, 2), 2001);
-            g.debt(0, 1, 3);
-            int[] want = {1, 0, 3, 3, 0, 0, Check.NONE, Check.NONE, Check.NONE};
-            for (int what = 0; what <= 8; what++) {
-                Check.due("poor claim " + what, g.claim(0, what), want[what]);
-            }
-            Check.due("no oath", g.swear(0, 0, 0), Check.NONE);
+            poorLand(g);
+            // Once more: what a land is read into may be what the one before the last was read into.
+            poorLand(g);
         }
+    }
+
+    private static void poorLand(SeizedGoods g) {
+        Check.due("poor land", Check.read(g, "town 7;town 8;man 1;man 1;"), 2);
+        int[] poor = {0, 2, 2, 0, 0, 0, 0, 0, 0, 0, 0};
+        for (int what = 0; what <= 10; what++) {
+            Check.due("poor count " + what, g.count(what), poor[what]);
+        }
+        Check.due("poor law", g.law(1, 0) * 1000 + g.law(1, 1) * 10 + g.law(1, 2), 2001);
+        g.debt(0, 1, 3);
+        int[] want = {1, 0, 3, 3, 0, 0, Check.NONE, Check.NONE, Check.NONE};
+        for (int what = 0; what <= 8; what++) {
+            Check.due("poor claim " + what, g.claim(0, what), want[what]);
+        }
+        Check.due("no oath", g.swear(0, 0, 0), Check.NONE);
     }
 
     private static void later() {
