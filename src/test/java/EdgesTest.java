@@ -2,13 +2,15 @@ import java.lang.reflect.InvocationTargetException;
 import java.lang.reflect.Method;
 import java.lang.reflect.Modifier;
 import java.util.ArrayList;
+import java.util.Arrays;
 import java.util.Comparator;
 import java.util.List;
 import java.util.Random;
 
 /** All promises, for wrong numbers: no call throws, and what is refused changes nothing but status(). */
 public final class EdgesTest {
-    private static final int RUNS = 400, CALLS = 500;
+    /** With a land that is read ahead of them no more calls than the 512 of an object. */
+    private static final int RUNS = 2000, CALLS = 470;
     private static final int[] EDGES = {Integer.MIN_VALUE, Integer.MIN_VALUE + 1, -1000000, -129, -2, -1, 0, 0, 1, 1, 2, 2,
         3, 3, 4, 5, 5, 6, 7, 8, 9, 10, 11, 12, 15, 16, 23, 24, 25, 30, 31, 39, 40, 41, 99, 100, 101, 127, 128, 255, 256, 500,
         728, 729, 999, 1000, 32767, 32768, 65536, 1000000, Integer.MAX_VALUE - 1, Integer.MAX_VALUE};
@@ -37,12 +39,14 @@ public final class EdgesTest {
         return calls;
     }
 
+    /** Of two objects one gets all calls, the other only those that the first did not refuse: all else they answer is alike. */
     private static void run(int seed, List<Method> calls) throws IllegalAccessException {
         Random random = new Random(seed);
         SeizedGoods goods = new SeizedGoods();
-        boolean looks = seed % 8 == 0;
+        SeizedGoods twin = new SeizedGoods();
         if (seed % 5 != 0) {
             Check.read(goods, TEXTS[seed % 3]);
+            Check.read(twin, TEXTS[seed % 3]);
         }
         for (int k = 0; k < CALLS; k++) {
             Method call = calls.get(random.nextInt(calls.size()));
@@ -50,14 +54,14 @@ public final class EdgesTest {
                 continue;
             }
             Object[] numbers = numbers(call, random);
-            String ahead = looks ? seen(goods) : "";
+            String told = "run " + seed + ": " + call.getName() + Arrays.toString(numbers);
             try {
                 int answer = (Integer) call.invoke(goods, numbers);
-                if (looks && isRefusal(call.getName(), answer)) {
-                    Check.dueTrue(call.getName() + " refused and changed nothing", ahead.equals(seen(goods)));
+                if (!isRefusal(call.getName(), answer) && !call.getName().equals("status")) {
+                    Check.due(told + " as if nothing had been refused", answer, (Integer) call.invoke(twin, numbers));
                 }
             } catch (InvocationTargetException thrown) {
-                Check.dueTrue("run " + seed + ": " + call.getName() + " threw " + thrown.getCause(), false);
+                Check.dueTrue(told + " threw " + thrown.getCause(), false);
             }
         }
     }
@@ -72,30 +76,8 @@ public final class EdgesTest {
         return numbers;
     }
 
-    /** A land that is faulty empties the tape, and what sheets keep and calls only tell are no refusals. */
+    /** A land that is faulty is none, as it empties the tape; nor is what an item becomes. */
     private static boolean isRefusal(String call, int answer) {
-        boolean tells = call.equals("land") || call.equals("set") || call.equals("has") || call.equals("asks");
-        return !tells && answer <= Check.BAD && answer >= Check.STORE;
-    }
-
-    /** All that can be asked without changing it, but for status(). */
-    private static String seen(SeizedGoods goods) {
-        StringBuilder seen = new StringBuilder();
-        for (int what = 0; what <= 10; what++) {
-            seen.append(goods.count(what)).append(' ');
-        }
-        for (int man = 0; man < goods.count(2); man++) {
-            seen.append(goods.man(man, 1)).append(' ').append(goods.man(man, 2)).append(' ');
-        }
-        for (int claim = 0; claim < goods.count(6); claim++) {
-            for (int what = 0; what <= 8; what++) {
-                seen.append(goods.claim(claim, what)).append(' ');
-            }
-            seen.append(goods.says(claim)).append(' ').append(goods.kind(claim)).append('\n');
-        }
-        for (int i = 0; i < 16; i++) {
-            seen.append(goods.trace(i)).append(' ');
-        }
-        return seen.append(goods.fault()).toString();
+        return !call.equals("land") && !call.equals("set") && answer <= Check.BAD && answer >= Check.STORE;
     }
 }
