@@ -11,6 +11,7 @@ public final class BoundsOfForetoldTest {
         grownByClaimsInOrder();
         grownWithRoomForOne();
         grownBeyondTheLastDay();
+        grownSeizedInTheseDays();
         foretellingChangesNothing();
         netOfNothing();
         coin();
@@ -185,6 +186,19 @@ public final class BoundsOfForetoldTest {
         grown(g, 30, 1, 29, 21);
     }
 
+    // SEIZED in these DAYS: not what was seized ahead
+    private static void grownSeizedInTheseDays() {
+        SeizedGoods g = seizing("law 0 0 50 1 0;", 100);
+        g.seize(0, 0, 50);
+        grown(g, 1, 1, 25, 25);
+        g.seize(0, 0, 25);
+        grown(g, 1, 1, 12, 13);
+        g.seize(0, 0, 12);
+        g.pay(0, 13);
+        grown(g, 30, 1, 0, 0);
+        Check.due("seized all in all", g.count(8), 87);
+    }
+
     private static void foretellingChangesNothing() {
         Twin.Call[] calls = {g -> g.grown(30, 0), g -> g.grown(1, 1), g -> g.grown(30, 2), g -> g.net(0), g -> g.net(1),
             g -> g.net(2), g -> g.way(0, 1), g -> g.opened(0, 1), g -> g.shut(0, 1), g -> g.dead(), g -> g.owes(0),
@@ -264,6 +278,11 @@ public final class BoundsOfForetoldTest {
                 has.debt(man, 0, 10);
             }
             Check.due("one has all of " + men, has.net(2), men - 1);
+            SeizedGoods ones = Check.landed("town 1;" + "man 0;".repeat(men));
+            for (int man = 1; man < men; man++) {
+                ones.debt(0, man, 1);
+            }
+            Check.due("one owes 1 to each of " + men, ones.net(2), men - 1);
         }
         SeizedGoods chain = Check.landed("town 1;" + "man 0;".repeat(12));
         for (int k = 0; k < 11; k++) {
@@ -775,7 +794,12 @@ public final class BoundsOfForetoldTest {
             Check.due("back", g.law(town, 2), 1);
             Check.due("letter", g.law(town, 3), 1);
         }
-        // Without BACK less is LEFT: of a countryman all 64 laws differ.
+        // Who owes is away, and his town was never asked: a law that does not ask is best.
+        SeizedGoods unasked = seizing("law 0 3 1 1 1;", 3);
+        unasked.goes(0, 1);
+        Check.due("100, not asked", unasked.reform(1), 12);
+        Check.due("75, not asked", unasked.reform(2), 8);
+        // Without BACK less is LEFT.
         SeizedGoods back = Check.landed("town 1;town 1;man 0;man 0;man 1;road 0 1;law 0 0 100 1 0;");
         back.goes(2, 0);
         back.debt(1, 2, 3);

@@ -41,6 +41,7 @@ public final class BoundsOfTextsTest {
         latestFault();
         landStaysOnFault();
         landInPlaceOfTheOneBefore();
+        nothingOfLandsBefore();
         Check.end();
     }
 
@@ -168,7 +169,9 @@ public final class BoundsOfTextsTest {
             faulty(ahead, sort.substring(1) + " 0 1;", 1);
             faulty(ahead, sort.substring(0, sort.length() - 1) + " 0 1;", 1);
             faulty(ahead, sort + "s 0 1;", 1);
-            faulty(ahead, sort.substring(0, sort.length() - 1) + "x 0 1;", 1);
+            for (int letter = 0; letter < sort.length(); letter++) {
+                faulty(ahead, sort.substring(0, letter) + "x" + sort.substring(letter + 1) + " 0 1;", 1);
+            }
         }
     }
 
@@ -681,5 +684,48 @@ public final class BoundsOfTextsTest {
         Check.due("day 0", g.count(9), 0);
         Check.due("no claims", g.count(6), 0);
         Check.due("a day goes by", g.later(100), 100);
+    }
+
+    /** Nothing of a land is in any that is read behind it, however often. */
+    private static void nothingOfLandsBefore() {
+        SeizedGoods g = new SeizedGoods();
+        for (int round = 0; round < 3; round++) {
+            Check.due("rich", Check.read(g, "town 9;town 8;man 0;man 1;man 0;road 0 1;law 0 0 9 0 1;law 1 0 9 1 0;fair 0 0 9;"), 2);
+            g.goes(0, 1);
+            g.debt(0, 1, 50 + round);
+            g.ask(0);
+            g.letter(0, 5, 5);
+            g.swear(0, 0, 1);
+            g.swear(1, 0, 0);
+            g.goes(2, 1);
+            Check.due("bred", g.seize(0, 2, 4), 1);
+            g.pact(0, 1, 1);
+            g.later(3);
+            for (int poor = 0; poor < 3; poor++) {
+                Check.due("poor", Check.read(g, "town 7;town 6;man 1;man 0;"), 2);
+                int[] counts = {0, 2, 2, 0, 0, 0, 0, 0, 0, 0, 0};
+                for (int what = 0; what <= 10; what++) {
+                    Check.due("poor count " + what, g.count(what), counts[what]);
+                }
+                for (int man = 0; man < 2; man++) {
+                    Check.due("at", g.man(man, 1), 1 - man);
+                    Check.due("no road", g.goes(man, man), Check.STATE);
+                }
+                int[] law = {1, 100, 1, 0};
+                for (int what = 0; what < 4; what++) {
+                    Check.due("no law", g.law(0, what), law[what]);
+                }
+                g.debt(0, 1, 3);
+                g.debt(1, 0, 4);
+                int[][] claims = {{1, 0, 3, 3, 0, 0, Check.NONE, Check.NONE, Check.NONE},
+                    {0, 1, 4, 4, 0, 0, Check.NONE, Check.NONE, Check.NONE}};
+                for (int what = 0; what <= 8; what++) {
+                    Check.due("first claim " + what, g.claim(0, what), claims[0][what]);
+                    Check.due("second claim " + what, g.claim(1, what), claims[1][what]);
+                }
+                Check.due("no oaths", g.swear(0, 0, 1), Check.NONE);
+                Check.due("no oaths", g.swear(1, 0, 1), Check.NONE);
+            }
+        }
     }
 }
