@@ -22,6 +22,7 @@ public final class LanguageTest {
         classes();
         words();
         methodLengths();
+        madeInConstructors();
         Check.end();
     }
 
@@ -146,5 +147,22 @@ public final class LanguageTest {
             }
         }
         Check.due("braces match", depth, 0);
+    }
+
+    /** Calls make nothing: what is new stands in a field's own line or in a constructor. */
+    private static void madeInConstructors() throws IOException {
+        int made = 0;
+        boolean inConstructor = false;
+        for (String line : bare().split("\n")) {
+            if (line.matches("\\s+[\\w\\[\\] ]+\\(.*\\) \\{") && !line.matches("\\s+(if|for|while|switch|else)\\b.*")) {
+                inConstructor = line.matches("\\s+(public )?[A-Z]\\w*\\(.*");
+            }
+            if (line.matches(".*\\bnew\\b.*")) {
+                made++;
+                boolean isField = line.matches("\\s+(private )?final [\\w\\[\\]]+ \\w+ = new .*;");
+                Check.dueTrue("made outside a constructor: " + line.trim(), inConstructor || isField);
+            }
+        }
+        Check.dueTrue("something is made", made > 0);
     }
 }
